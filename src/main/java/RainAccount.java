@@ -804,6 +804,15 @@ public final class RainAccount {
             return target;
         }
 
+        boolean hasCloudWithin(int reach, int f, int hour) {
+            for (int c = 0; c < sky.count; c++) {
+                if (sky.high[c] <= reach && sky.placeOf(c, land.wind, hour) == f) {
+                    return true;
+                }
+            }
+            return false;
+        }
+
         int yieldOfField(int f) {
             int sum = land.worth[f] * Math.min(got[f], land.need[f]) - 2 * hail[f];
             return Math.max(0, sum);
@@ -952,6 +961,8 @@ public final class RainAccount {
         int firstRest = NONE;
         private final int[] ours = new int[MOST_PLANS];
         private final int[] theirs = new int[MOST_PLANS];
+        private final int[] ourLike = new int[MOST_PLANS];
+        private final int[] theirLike = new int[MOST_PLANS];
         private final int[] ourBest = new int[MOST_PLANS];
         private final int[] theirBest = new int[MOST_PLANS];
         private final int[] pay = new int[MOST_PAIRS];
@@ -970,22 +981,29 @@ public final class RainAccount {
         void fight(int club, int other, int powder) {
             restCount = 0;
             firstRest = NONE;
-            ourCount = listPlans(club, ours);
-            theirCount = listPlans(other, theirs);
+            ourCount = listPlans(club, powder, ours, ourLike);
+            theirCount = listPlans(other, powder, theirs, theirLike);
             if (ourCount * theirCount > MOST_PAIRS) {
                 return;
             }
-            for (int a = 0; a < ourCount; a++) {
-                for (int b = 0; b < theirCount; b++) {
-                    runPair(ours[a], theirs[b], powder);
-                    pay[a * theirCount + b] = day.yieldOf(club) * ABOVE_YIELD + day.yieldOf(other);
+            // Backwards, since what is alike stands behind.
+            for (int a = ourCount - 1; a >= 0; a--) {
+                for (int b = theirCount - 1; b >= 0; b--) {
+                    int at = a * theirCount + b;
+                    if (ourLike[a] == a && theirLike[b] == b) {
+                        runPair(ours[a], theirs[b], powder);
+                        pay[at] = day.yieldOf(club) * ABOVE_YIELD + day.yieldOf(other);
+                    } else {
+                        pay[at] = pay[ourLike[a] * theirCount + theirLike[b]];
+                    }
                 }
             }
             findBest();
             countRests();
         }
 
-        private int listPlans(int club, int[] plans) {
+        /** A shot with no cloud in reach changes nothing: its day is like that of the last plan, to fire none. */
+        private int listPlans(int club, int powder, int[] plans, int[] like) {
             int count = 0;
             for (int place = 0; place < land.count * HOURS; place++) {
                 if (land.isOf(place / HOURS, club) && land.isAllowed(place % HOURS)) {
@@ -994,6 +1012,11 @@ public final class RainAccount {
                 }
             }
             plans[count] = NO_SHOT;
+            for (int k = 0; k < count; k++) {
+                boolean acts = day.hasCloudWithin(powder, plans[k] / HOURS, plans[k] % HOURS);
+                like[k] = acts ? k : count;
+            }
+            like[count] = count;
             return count + 1;
         }
 
