@@ -7,6 +7,7 @@ public final class PlansTest {
         noOneMore();
         awaited();
         duels();
+        mostPlans();
         wrongInputs();
         check.end();
     }
@@ -111,6 +112,22 @@ public final class PlansTest {
         chase.cloud(2, 1, 1);
         chase.set(2, 4092);
         duel(chase, 0, 1, 1, 3, 2412);
+    }
+
+    /** As many plans as eight fields can make: of two clubs with four each, and of one that has them all. */
+    private static void mostPlans() {
+        RainAccount halves = Check.with("011;111;011;111;011;111;011;111");
+        duel(halves, 0, 1, 9, 49 * 49, 12);
+        halves.cloud(7, 1, 1);
+        // Club 1 takes the cloud in any hour from field 7; club 0 has nothing by any of its 49 plans.
+        duel(halves, 0, 1, 9, 49 * 12, 84);
+        duel(halves, 1, 0, 9, 49 * 12, 8400);
+        RainAccount whole = Check.with("311;311;311;311;311;311;311;311");
+        duel(whole, 3, 0, 1, 97, 96);
+        duel(whole, 0, 3, 1, 97, 9600);
+        whole.cloud(7, 1, 1);
+        duel(whole, 3, 0, 1, 12, 8496);
+        duel(whole, 0, 3, 1, 12, 9684);
     }
 
     private static void wrongInputs() {
