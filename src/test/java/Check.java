@@ -1,11 +1,49 @@
-/** Counts the answers that are not as due, and puts texts and numbers on sheets. */
+import java.io.IOException;
+import java.io.UncheckedIOException;
+import java.nio.file.Files;
+import java.nio.file.Path;
+
+/** Counts the answers that are not as due, and tells with them the document's words that they break. */
 final class Check {
+    private static final Path DOCUMENT = Path.of("../shared/DOC.md");
+
+    private final String document = document();
+    private String words = "";
     private int wrong = 0;
+
+    /** The document's words that the answers from here on are held against; they have to stand in it. */
+    void says(String quote) {
+        words = quote;
+        // Where the document is not at hand, its words can't be looked up; the answers are tried all the same.
+        if (!document.isEmpty() && !document.contains(folded(quote))) {
+            wrong++;
+            System.out.println("the document does not say: " + quote);
+        }
+    }
 
     void due(String call, long got, long want) {
         if (got != want) {
-            wrong++;
-            System.out.println(call + " answered " + got + ", due is " + want);
+            tell(call + " answered " + got + ", due is " + want);
+        }
+    }
+
+    void same(String call, String got, String want) {
+        if (!got.equals(want)) {
+            tell(call + " left\n" + got + "due is\n" + want);
+        }
+    }
+
+    void yes(String what, boolean holds) {
+        if (!holds) {
+            tell(what);
+        }
+    }
+
+    private void tell(String what) {
+        wrong++;
+        System.out.println(what);
+        if (!words.isEmpty()) {
+            System.out.println("    the document says: " + words);
         }
     }
 
@@ -14,6 +52,18 @@ final class Check {
         if (wrong != 0) {
             System.exit(1);
         }
+    }
+
+    private static String document() {
+        try {
+            return Files.exists(DOCUMENT) ? folded(Files.readString(DOCUMENT)) : "";
+        } catch (IOException e) {
+            throw new UncheckedIOException(e);
+        }
+    }
+
+    private static String folded(String text) {
+        return text.replaceAll("\\s+", " ").strip();
     }
 
     static void write(RainAccount r, int sheet, int sort, int... cells) {

@@ -33,6 +33,7 @@ public final class FaceTest {
 
     public static void main(String[] args) throws Exception {
         members();
+        sizes();
         constants();
         text();
         check.end();
@@ -62,6 +63,31 @@ public final class FaceTest {
         for (Class<?> inside : c.getDeclaredClasses()) {
             int how = inside.getModifiers();
             yes("static inside: " + inside, Modifier.isStatic(how) && !Modifier.isPublic(how) && !Modifier.isProtected(how));
+        }
+    }
+
+    /** Not too many parameters, classes and fields. */
+    private static void sizes() {
+        Class<?>[] inside = RainAccount.class.getDeclaredClasses();
+        yes("some twelve classes", inside.length < 12);
+        size(RainAccount.class);
+        for (Class<?> c : inside) {
+            size(c);
+        }
+    }
+
+    private static void size(Class<?> c) {
+        long fields = Arrays.stream(c.getDeclaredFields()).filter(f -> !Modifier.isStatic(f.getModifiers())).count();
+        yes("some twenty fields: " + c, fields <= 20);
+        for (Method m : c.getDeclaredMethods()) {
+            yes("at most seven parameters: " + m, m.getParameterCount() <= 7);
+        }
+        for (Constructor<?> made : c.getDeclaredConstructors()) {
+            yes("at most seven parameters: " + made, made.getParameterCount() <= 7);
+        }
+        for (Field f : c.getDeclaredFields()) {
+            int how = f.getModifiers();
+            yes("static and not final: " + f, !Modifier.isStatic(how) || Modifier.isFinal(how));
         }
     }
 
@@ -110,6 +136,6 @@ public final class FaceTest {
     }
 
     private static void yes(String what, boolean holds) {
-        check.due(what, holds ? 1 : 0, 1);
+        check.yes(what, holds);
     }
 }
