@@ -49,7 +49,8 @@ public final class FaceTest {
                 String parameters = with.substring(1, with.length() - 1).replace(" ", "");
                 face.add(m.getReturnType().getName() + " " + m.getName() + "(" + parameters + ")");
                 names.add(m.getName());
-                yes("public, of an object: " + m, Modifier.isPublic(m.getModifiers()) && !Modifier.isStatic(m.getModifiers()));
+                int how = m.getModifiers();
+                yes("public, of an object: " + m, Modifier.isPublic(how) && !Modifier.isStatic(how));
             }
         }
         yes("methods " + face, face.equals(new TreeSet<>(Arrays.asList(FACE))));
@@ -62,7 +63,8 @@ public final class FaceTest {
         yes("no package", c.getPackageName().isEmpty());
         for (Class<?> inside : c.getDeclaredClasses()) {
             int how = inside.getModifiers();
-            yes("static inside: " + inside, Modifier.isStatic(how) && !Modifier.isPublic(how) && !Modifier.isProtected(how));
+            boolean hidden = !Modifier.isPublic(how) && !Modifier.isProtected(how);
+            yes("static inside: " + inside, Modifier.isStatic(how) && hidden);
         }
     }
 
@@ -115,7 +117,21 @@ public final class FaceTest {
             String whole = word.matches("\\w+") ? "\\b" + word + "\\b" : word;
             yes("not in the language: " + word, !java.util.regex.Pattern.compile(whole).matcher(code).find());
         }
+        makesOnlyInConstructors(code);
         shortBlocks(source.split("\n"));
+    }
+
+    /** All calls of a run live in one room: rows are made once, by a constructor or a field that begins with one. */
+    private static void makesOnlyInConstructors(String code) {
+        int from = code.indexOf("    public RainAccount() {\n");
+        int to = code.indexOf("\n    }\n", from);
+        yes("the constructor is found", from >= 0 && to > from);
+        String rest = code.substring(0, Math.max(from, 0)) + code.substring(Math.max(to, 0));
+        for (String line : rest.split("\n")) {
+            boolean makes = line.matches(".*(\\bnew\\b|\\.clone\\(|copyOf|\\bList\\.of|substring|toCharArray|\"\\s*\\+).*");
+            boolean row = line.matches("\\s+(private )?final int\\[] \\w+ = new int\\[[\\w.]+];");
+            yes("a call makes something: " + line.strip(), !makes || row);
+        }
     }
 
     /** No block but that of a class has more than sixty lines. */

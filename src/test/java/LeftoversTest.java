@@ -113,7 +113,8 @@ public final class LeftoversTest {
                     once.shot(2, s % 4, s % 2, 9);
                 }
                 once.back(8 - left);
-                check.due("question " + q + ", " + left + " left", QUESTIONS.get(q).on(once), QUESTIONS.get(q).on(fired(left)));
+                long want = QUESTIONS.get(q).on(fired(left));
+                check.due("question " + q + ", " + left + " left", QUESTIONS.get(q).on(once), want);
             }
         }
     }

@@ -185,8 +185,9 @@ public final class RefusalsTest {
                 .asks();
         stateIfBare(line, scene).holds();
         if (scene != Scene.BARE) {
-            faulty("missed", scene, (r, a) -> r.missed(a[0], a[1], a[2]), Scene.INTS, 2, Scene.INT_CELLS - scene.fields)
-                    .asks().fault(INDEX, 2, Scene.INT_CELLS - scene.fields + 1, Scene.INT_CELLS).holds();
+            int last = Scene.INT_CELLS - scene.fields;
+            faulty("missed", scene, (r, a) -> r.missed(a[0], a[1], a[2]), Scene.INTS, 2, last)
+                    .asks().fault(INDEX, 2, last + 1, Scene.INT_CELLS).holds();
         }
     }
 

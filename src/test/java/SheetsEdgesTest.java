@@ -83,7 +83,8 @@ public final class SheetsEdgesTest {
     }
 
     private static void cutWithSign() {
-        check.says("of a SORT: 0 bytes, 1 shorts, 2 ints; what comes to a cell of it is cut to its SORT (with its sign)");
+        check.says("of a SORT: 0 bytes, 1 shorts, 2 ints; "
+                + "what comes to a cell of it is cut to its SORT (with its sign)");
         int[] values = {
             0, 1, -1, 127, 128, 129, 255, 256, 257, -127, -128, -129, -255, -256, -257, 32767, 32768, 32769, 65535,
             65536, 65537, -32767, -32768, -32769, -65535, -65536, -65537, Integer.MAX_VALUE, Integer.MIN_VALUE,
@@ -202,7 +203,8 @@ public final class SheetsEdgesTest {
     }
 
     private static void noCells() {
-        check.says("INDEX (of cells from i on also where i is not 0 .. how many there are, if none of them is taken, too)");
+        check.says("INDEX (of cells from i on also where i is not 0 .. how many there are, "
+                + "if none of them is taken, too)");
         RainAccount r = new RainAccount();
         for (int n : new int[] {0, 5, 40}) {
             r.sheet(0, 2, n);
