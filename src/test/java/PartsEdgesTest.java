@@ -14,6 +14,9 @@ public final class PartsEdgesTest {
         faultOfLatest();
         faultsThatStay();
         faultNumbers();
+        firstFaultInOrder();
+        refusalsInOrder();
+        nothingChanges();
         allCalls();
         check.end();
     }
@@ -211,6 +214,87 @@ public final class PartsEdgesTest {
         check.says("NONE is -9.");
         check.due("NONE", r.by(0, 1), RainAccount.NONE);
         check.due("NONE", RainAccount.NONE, -9);
+    }
+
+    private static void firstFaultInOrder() {
+        check.says("Of a call the first that is come to, in the order told; it answers -10 less it");
+        RainAccount r = new RainAccount();
+        Check.write(r, 1, 1, 48, 49);
+        Check.write(r, 2, 2, 48, 49);
+        check.due("plain: NULL, SIZE, INDEX", r.plain(0, 0, -1, -1), -11);
+        check.due("plain: CAST, SIZE, INDEX", r.plain(1, 0, -1, -1), -12);
+        check.due("plain: CAST, INDEX", r.plain(1, 2, -1, 9), -12);
+        check.due("plain: SIZE, INDEX", r.plain(1, 1, 3, -1), -14);
+        check.due("plain: INDEX, a text's fault", r.plain(1, 1, 1, 2), -13);
+        check.due("missed: NULL, INDEX, no plain", r.missed(0, 0, -1), -11);
+        check.due("missed: CAST, INDEX, no plain", r.missed(1, 0, -1), -12);
+        check.due("missed: INDEX, no plain", r.missed(1, 1, -1), -13);
+        check.due("put: NULL, INDEX", r.put(0, -1, 0), -11);
+        check.due("copy: NULL, INDEX", r.copy(0, -1, 1, -1, -1), -11);
+        check.due("copy: NULL of the other, INDEX", r.copy(1, -1, 0, -1, -1), -11);
+        check.due("copy: CAST, INDEX", r.copy(1, -1, 2, -1, -1), -12);
+        check.due("copy: INDEX thrice", r.copy(1, -1, 1, -1, -1), -13);
+        r.cell(0, -1, 0);
+        check.due("cell: NULL, INDEX", r.fault(), 1);
+        r.cell(1, -1, 0);
+        check.due("cell: CAST, INDEX", r.fault(), 2);
+    }
+
+    private static void refusalsInOrder() {
+        check.says("REFUSALS, in the order in which a call's line tells them: UNKNOWN");
+        RainAccount r = new RainAccount();
+        check.due("plain: UNKNOWN, OUTSIDE, SIZE", r.plain(4, 3, 0, -1), -1);
+        check.due("plain: OUTSIDE, NULL, SIZE", r.plain(0, 3, 0, -1), -2);
+        check.due("missed: UNKNOWN, OUTSIDE, INDEX", r.missed(4, 3, -1), -1);
+        check.due("missed: OUTSIDE, NULL, INDEX", r.missed(0, 3, -1), -2);
+        check.due("sheet: UNKNOWN, OUTSIDE, SIZE", r.sheet(4, 3, -1), -1);
+        check.due("sheet: OUTSIDE, SIZE", r.sheet(0, 3, -1), -2);
+        check.due("set: OUTSIDE, STATE", r.set(0, 4), -2);
+        check.due("cloud: OUTSIDE, STATE", r.cloud(0, 0, 0), -2);
+        check.due("shot: UNKNOWN, OUTSIDE", r.shot(3, 0, 0, 1), -1);
+        check.due("oneMore: UNKNOWN, OUTSIDE, STATE", r.oneMore(4, 0, 0), -1);
+        check.due("oneMore: OUTSIDE, STATE", r.oneMore(0, 0, 0), -2);
+        check.due("rests: UNKNOWN, OUTSIDE, STATE", r.rests(0, 0, 0, 0), -1);
+        check.due("rests: OUTSIDE, STATE", r.rests(0, 1, 1, 2), -2);
+        check.due("bestWind: OUTSIDE, STATE", r.bestWind(2), -2);
+        RainAccount full = Scene.FULL.make(Scene.CAST);
+        check.due("cloud: OUTSIDE, FULL", full.cloud(0, 1, 10), -2);
+        check.due("cloud: FULL", full.cloud(0, 1, 9), -4);
+        check.due("shot: UNKNOWN, OUTSIDE, FULL", full.shot(3, 8, 0, 1), -1);
+        check.due("shot: OUTSIDE, FULL", full.shot(3, 7, 0, 1), -2);
+        check.due("shot: FULL", full.shot(2, 7, 0, 1), -4);
+        check.due("as: UNKNOWN, OUTSIDE", full.as(8, 3), -1);
+        check.due("as: OUTSIDE", full.as(0, 3), -2);
+        check.due("as: CAST", full.as(0, 2), -12);
+    }
+
+    private static void nothingChanges() {
+        check.says("they change nothing (but fault(), of a call that names FAULTS)");
+        for (Scene scene : Scene.values()) {
+            String was = Sight.of(scene.make(Scene.CAST));
+            RainAccount r = scene.make(Scene.CAST);
+            long[] none = {r.set(3, 0), r.cloud(21, 1, 1), r.shot(0, 8, 0, 1), r.back(9), r.lose(4), r.tell(8), r.load(8)};
+            check.same(scene + ": refusals of " + none.length + " that name none", Sight.of(r), was);
+            r.plain(4, 0, 0, 0);
+            r.missed(0, 3, 0);
+            r.sheet(1, 0, 41);
+            r.put(4, 0, 0);
+            r.copy(1, 0, 4, 0, 1);
+            r.as(8, 0);
+            check.same(scene + ": refusals", Sight.of(r), Sight.withFault(was, 0));
+        }
+        check.says("and changes nothing; fault() tells it.");
+        RainAccount r = Scene.FULL.make(Scene.CAST);
+        String was = Sight.of(Scene.FULL.make(Scene.CAST));
+        r.plain(Scene.BYTES, 0, 5, 7);
+        r.missed(Scene.INTS, 2, 2);
+        r.put(Scene.BYTES, Scene.BYTE_CELLS, 9);
+        r.copy(Scene.INTS, 0, Scene.MORE_INTS, 2, 9);
+        check.same("faults of an index", Sight.of(r), Sight.withFault(was, 3));
+        RainAccount size = Scene.FULL.make(Scene.CAST);
+        size.plain(Scene.BYTES, 0, 2, -1);
+        size.sheet(Scene.BYTES, 1, -1);
+        check.same("faults of a size", Sight.of(size), Sight.withFault(was, 4));
     }
 
     private static void allCalls() {
