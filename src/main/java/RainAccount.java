@@ -48,13 +48,7 @@ public final class RainAccount {
             return OUTSIDE;
         }
         Sheet text = rows[sheet];
-        int first = text.faultAsRow(sort);
-        if (first == NO_FAULT && n < 0) {
-            first = FAULT_SIZE;
-        }
-        if (first == NO_FAULT && !text.holds(i, n)) {
-            first = FAULT_INDEX;
-        }
+        int first = text.faultOfCells(sort, i, n);
         if (first != NO_FAULT) {
             return faulted(first);
         }
@@ -317,10 +311,7 @@ public final class RainAccount {
             return OUTSIDE;
         }
         Sheet told = rows[sheet];
-        int first = told.faultAsRow(sort);
-        if (first == NO_FAULT && !told.holds(i, land.count)) {
-            first = FAULT_INDEX;
-        }
+        int first = told.faultOfCells(sort, i, land.count);
         if (first != NO_FAULT) {
             return faulted(first);
         }
@@ -378,10 +369,7 @@ public final class RainAccount {
             return LOST;
         }
         Sheet at = rows[k];
-        lastFault = at.faultAsRow(sort);
-        if (lastFault == NO_FAULT && !at.holds(i, 1)) {
-            lastFault = FAULT_INDEX;
-        }
+        lastFault = at.faultOfCells(sort, i, 1);
         return lastFault == NO_FAULT ? at.read(i) : LOST;
     }
 
@@ -566,11 +554,18 @@ public final class RainAccount {
             }
         }
 
-        int faultAsRow(int asSort) {
+        /** The first fault of n cells from i on, taken as of a row of a sort. */
+        int faultOfCells(int asSort, int i, int n) {
             if (!hasRow()) {
                 return FAULT_NULL;
             }
-            return sort == asSort ? NO_FAULT : FAULT_CAST;
+            if (sort != asSort) {
+                return FAULT_CAST;
+            }
+            if (n < 0) {
+                return FAULT_SIZE;
+            }
+            return holds(i, n) ? NO_FAULT : FAULT_INDEX;
         }
 
         boolean holds(int i, int n) {
